@@ -1,0 +1,245 @@
+import java.lang.reflect.InvocationTargetException;
+import java.lang.reflect.Method;
+import java.lang.reflect.Modifier;
+import java.util.ArrayList;
+import java.util.Arrays;
+import java.util.Comparator;
+import java.util.HashMap;
+import java.util.List;
+import java.util.Map;
+import java.util.Random;
+import java.util.TreeMap;
+
+/** All promises at once: rows of at most 512 calls, each answered by the class and by the model. */
+final class FuzzTest {
+    private static final Check CHECK = new Check("FuzzTest");
+    private static final int MOST_CALLS = 512;
+    private static final int[] EDGES = {
+        Integer.MIN_VALUE, Integer.MIN_VALUE + 1, -1000001, -100000, -99999, -1, 0, 1, 2, 3, 4, 5, 6, 7, 8, 9, 10,
+        49, 50, 51, 63, 64, 65, 90, 91, 98, 99, 100, 149, 150, 151, 9999, 10000, 99999, 100000, 999999, 1000000,
+        1000001, 999999999, 1000000000, 1000000001, Integer.MAX_VALUE
+    };
+    private static final Method[] CALLS = calls();
+    private static final Map<String, Method> MODEL_CALLS = modelCalls();
+    private static final TreeMap<String, Integer> SEEN = new TreeMap<>();
+
+    private final Random random;
+    private final int rudeness;
+    private final Shakerhall lab = new Shakerhall();
+    private final Model model = new Model();
+    private final StringBuilder log = new StringBuilder();
+    private int made;
+    private boolean broken;
+
+    private FuzzTest(long seed) {
+        random = new Random(seed);
+        rudeness = (int) (seed % 4) * 8;
+    }
+
+    public static void main(String[] args) {
+        int rows = args.length > 1 ? Integer.parseInt(args[1]) : 600;
+        for (int seed = 0; seed < rows; seed++) {
+            FuzzTest row = new FuzzTest(seed);
+            row.go(seed % 3);
+            if (row.broken) {
+                System.out.println("row " + seed + ":\n" + row.log);
+                break;
+            }
+        }
+        for (String needed : new String[] {
+            "turnLoop IllegalStateException", "turnLoop UnsupportedOperationException", "raise 3",
+            "raise IllegalStateException", "getState c", "getState l", "differs true", "differs false",
+            "crack IllegalStateException", "sign IllegalStateException", "addSensor IllegalStateException",
+            "addControl IllegalStateException", "type IllegalStateException", "isInBand true", "isInBand false"}) {
+            CHECK.yes("some row comes to " + needed, SEEN.containsKey(needed));
+        }
+        CHECK.end();
+    }
+
+    private static Method[] calls() {
+        Method[] all = Arrays.stream(Shakerhall.class.getDeclaredMethods())
+                .filter(m -> Modifier.isPublic(m.getModifiers())).toArray(Method[]::new);
+        Arrays.sort(all, Comparator.comparing(Method::getName));
+        return all;
+    }
+
+    private static Map<String, Method> modelCalls() {
+        Map<String, Method> all = new HashMap<>();
+        for (Method call : CALLS) {
+            try {
+                all.put(call.getName(), Model.class.getMethod(call.getName(), call.getParameterTypes()));
+            } catch (NoSuchMethodException missing) {
+                throw new IllegalStateException("the model lacks " + call);
+            }
+        }
+        return all;
+    }
+
+    private void go(int kind) {
+        if (kind != 0) {
+            build();
+        }
+        if (kind == 2) {
+            driveOneRun();
+        }
+        // each row has calls that it makes more often: limits that few rows would come to by chance
+        Method[] often = new Method[5];
+        for (int i = 0; i < often.length; i++) {
+            often[i] = CALLS[random.nextInt(CALLS.length)];
+        }
+        while (made < MOST_CALLS && !broken) {
+            Method[] from = random.nextBoolean() ? often : CALLS;
+            Method call = from[random.nextInt(from.length)];
+            // what plays all periods is dear in the model
+            if (random.nextInt(4) != 0 && List.of("takeSignature", "getResonance", "differs").contains(call.getName())) {
+                continue;
+            }
+            make(call, randomArguments(call));
+        }
+    }
+
+    private void build() {
+        int structures = 1 + random.nextInt(3);
+        for (int s = 0; s < structures; s++) {
+            call("addStructure");
+            int masses = 1 + random.nextInt(4);
+            for (int m = 0; m < masses; m++) {
+                call("addMass", s, 1 + random.nextInt(random.nextInt(3) == 0 ? 6 : 99), 1 + random.nextInt(random.nextBoolean() ? 60 : 9999),
+                        random.nextInt(100));
+                for (int more = random.nextInt(2); more >= 0; more--) {
+                    call("addSensor", s, m, 50 + random.nextInt(101), 1 + random.nextInt(1000000));
+                }
+            }
+        }
+        call("addSpecification");
+        for (int b = 0; b < 8; b++) {
+            call("setLevel", 0, b, random.nextInt(random.nextBoolean() ? 3000 : 100000));
+            call("setTolerance", 0, b, 1 + random.nextInt(50));
+        }
+        for (int s = 0; s < structures; s++) {
+            call("addRun", s, 0, "mxn".charAt(random.nextInt(3)));
+        }
+        for (int i = 0; i < 14; i++) {
+            call("addControl", random.nextInt(structures), random.nextInt(8), 1 + random.nextInt(9));
+        }
+    }
+
+    /** A run at whose top stage a loop that works can come, and whose minutes can come to an end. */
+    private void driveOneRun() {
+        int turns = random.nextBoolean() ? 20 : 105;
+        for (int b = 0; b < 8; b++) {
+            call("setTolerance", 0, b, 50);
+        }
+        for (int i = 0; i < turns && !broken; i++) {
+            call("turnLoop", 0);
+            if (random.nextInt(turns / 10) == 0) {
+                call("raise", 0);
+                call("countOver", 0);
+                call("sign", 0, random.nextInt(8));
+                call("setNotch", 0, random.nextInt(8), random.nextInt(91));
+                call("bandShare", 0);
+                call("isInBand", 0, random.nextInt(8));
+            }
+        }
+        call("raise", 0);
+        call("raise", 0);
+        call("setLoose", 0, random.nextBoolean());
+        call("setAbort", 0, 1 + random.nextInt(100));
+        call("turnLoop", 0);
+        call("getState", 0);
+        call("takeUp", 0);
+    }
+
+    private void call(String name, Object... arguments) {
+        for (Method call : CALLS) {
+            if (call.getName().equals(name)) {
+                make(call, arguments);
+            }
+        }
+    }
+
+    private Object[] randomArguments(Method call) {
+        Class<?>[] kinds = call.getParameterTypes();
+        Object[] arguments = new Object[kinds.length];
+        for (int i = 0; i < kinds.length; i++) {
+            arguments[i] = randomArgument(call.getName(), kinds[i], i);
+        }
+        return arguments;
+    }
+
+    private Object randomArgument(String name, Class<?> kind, int index) {
+        if (kind == boolean.class) {
+            return random.nextBoolean();
+        }
+        if (kind == char.class) {
+            return random.nextInt(100) < rudeness ? (char) random.nextInt(256) : "mxn".charAt(random.nextInt(3));
+        }
+        if (random.nextInt(100) < rudeness) {
+            return random.nextInt(10) == 0 ? random.nextInt() : EDGES[random.nextInt(EDGES.length)];
+        }
+        return goodNumber(name, index);
+    }
+
+    private int goodNumber(String name, int index) {
+        switch (name + index) {
+            case "type0":
+                int far = random.nextBoolean() ? 99999 : -99999;
+                return random.nextBoolean() ? far : random.nextInt(199999) - 99999;
+            case "getResponse2": case "read1": case "sweep1": case "sweep2": case "getSpectrum0":
+                return 4 + random.nextInt(61);
+            case "sweep3": case "addMass1": case "addMass3":
+                return 1 + random.nextInt(99);
+            case "addMass2":
+                return 1 + random.nextInt(9999);
+            case "addSensor2":
+                return 50 + random.nextInt(101);
+            case "addSensor3": case "setAbort1":
+                return 1 + random.nextInt(1000000);
+            case "setLevel2":
+                return random.nextInt(100000);
+            case "setTolerance2":
+                return 1 + random.nextInt(50);
+            case "setNotch2":
+                return random.nextInt(91);
+            case "setLife1":
+                return 1 + random.nextInt(random.nextBoolean() ? 1000 : 1000000000);
+            case "getEvent1":
+                return random.nextInt(62);
+            case "addControl2":
+                return 1 + random.nextInt(9);
+            case "addControl1": case "setLoose0": case "read0":
+                return random.nextInt(8);
+            case "sign1": case "setNotch1":
+                return random.nextInt(random.nextBoolean() ? 2 : 8);
+            case "addRun1": case "setLevel0": case "setTolerance0":
+                return random.nextInt(2);
+            default:
+                return index == 0 ? random.nextInt(3) : random.nextInt(name.equals("crack")
+                        || name.equals("getSpring") || name.equals("addSensor") || name.equals("getResponse") ? 4 : 8);
+        }
+    }
+
+    private void make(Method call, Object[] arguments) {
+        if (made >= MOST_CALLS || broken) {
+            return;
+        }
+        made++;
+        String got = answer(call, lab, arguments);
+        String due = answer(MODEL_CALLS.get(call.getName()), model, arguments);
+        String told = call.getName() + Arrays.toString(arguments);
+        CHECK.same(told, due, got);
+        log.append(told).append(" = ").append(got).append('\n');
+        SEEN.merge(call.getName() + " " + got.replaceAll(".*\\.", ""), 1, Integer::sum);
+        broken = !due.equals(got);
+    }
+
+    private static String answer(Method call, Object target, Object[] arguments) {
+        try {
+            return call.invoke(target, arguments).toString();
+        } catch (InvocationTargetException thrown) {
+            return "throws " + thrown.getCause().getClass().getName();
+        } catch (IllegalAccessException closed) {
+            throw new IllegalStateException(closed);
+        }
+    }
+}
