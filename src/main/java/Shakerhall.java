@@ -893,7 +893,7 @@ public final class Shakerhall {
         void turn() {
             for (int band = 0; band < BANDS; band++) {
                 int has = hasIn(band);
-                if (has > 0 && !isWithin(band, has)) {
+                if (!isWithin(band, has)) {
                     drives[band] = equalised(drives[band], dueIn(band, stage), has);
                 }
             }

@@ -34,8 +34,16 @@ final class Check {
         try {
             return String.valueOf(call.go());
         } catch (Throwable thrown) {
-            return "throws " + thrown.getClass().getName();
+            return told(thrown);
         }
+    }
+
+    /** An exception that the class did not throw itself is told as another one: a list's, say. */
+    static String told(Throwable thrown) {
+        StackTraceElement[] trace = thrown.getStackTrace();
+        String where = trace.length < 1 ? "nowhere" : trace[0].getClassName();
+        boolean own = where.startsWith("Shakerhall") || where.startsWith("Model");
+        return "throws " + thrown.getClass().getName() + (own ? "" : " in " + where);
     }
 
     void end() {

@@ -8,6 +8,7 @@ final class FatigueTest {
         rain();
         lives();
         wear();
+        wearOfManyTurns();
         softest();
         wrongCalls();
         CHECK.end();
@@ -111,6 +112,27 @@ final class FatigueTest {
         less.getResponse(0, 0, 16);
         less.sweep(0, 4, 64, 99);
         CHECK.same("tones and sweeps do not wear", 0L, less.getDamage(0));
+    }
+
+    /** Structures that jump to and fro nearly each step, from the first one on. */
+    private static void wearOfManyTurns() {
+        int[][] masses = {{2, 8791, 37}, {1, 1600, 0}, {16, 9984, 0}, {1, 9999, 99}, {6, 3640, 76},
+            {3, 8, 93}};
+        for (int[] mass : masses) {
+            Shakerhall lab = new Shakerhall();
+            Model model = new Model();
+            lab.addStructure();
+            model.addStructure();
+            lab.addMass(0, mass[0], mass[1], mass[2]);
+            model.addMass(0, mass[0], mass[1], mass[2]);
+            for (int i = 0; i < 24; i++) {
+                lab.type(99999 - i);
+                model.type(99999 - i);
+                lab.shock(0);
+                model.shock(0);
+                CHECK.same("damage of many turns", model.getDamage(0), lab.getDamage(0));
+            }
+        }
     }
 
     private static void softest() {

@@ -45,12 +45,19 @@ final class FeltTest {
     }
 
     private static void lastMass() {
-        Shakerhall lab = lively();
+        Shakerhall lab = new Shakerhall();
+        lab.addStructure();
+        lab.addMass(0, 10, 500, 5);
         lab.addMass(0, 4, 300, 2);
+        lab.addSpecification();
+        lab.addRun(0, 0, 'm');
         lab.turnLoop(0);
+        lab.addSensor(0, 0, 100, 1000000);
+        lab.addControl(0, 0, 1);
         int[] periods = {4, 6, 8, 12, 16, 24, 32, 48};
         for (int band = 0; band < 8; band++) {
-            CHECK.same("the last mass", lab.getResponse(0, 1, periods[band]) / 100, lab.getFelt(0, band));
+            CHECK.same("the last mass", lab.getResponse(0, 1, periods[band]), lab.getFelt(0, band));
+            CHECK.same("a sensor on the first mass", lab.getResponse(0, 0, periods[band]), lab.getBand(0, band));
         }
     }
 

@@ -237,7 +237,7 @@ final class FuzzTest {
         try {
             return call.invoke(target, arguments).toString();
         } catch (InvocationTargetException thrown) {
-            return "throws " + thrown.getCause().getClass().getName();
+            return Check.told(thrown.getCause());
         } catch (IllegalAccessException closed) {
             throw new IllegalStateException(closed);
         }

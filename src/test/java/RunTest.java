@@ -169,6 +169,13 @@ final class RunTest {
         CHECK.same("greatest with a loose one", 201, lab.getBand(1, 3));
         CHECK.same("least with a loose one", 0, lab.getBand(2, 7));
 
+        CHECK.same("mean of one", 77, run('m', 77).getBand(0, 0));
+        CHECK.same("greatest of one", 77, run('x', 77).getBand(0, 0));
+        CHECK.same("least of one", 77, run('n', 77).getBand(0, 0));
+        CHECK.same("mean of none", 0, run('m').getBand(0, 0));
+        CHECK.same("greatest of none", 0, run('x').getBand(0, 0));
+        CHECK.same("least of none", 0, run('n').getBand(0, 0));
+
         Shakerhall driven = run('x', 33);
         levels(driven, 1600);
         driven.turnLoop(0);
@@ -403,6 +410,22 @@ final class RunTest {
         CHECK.same("the drive went up", 1000, ahead.getDrive(0, 0));
         ahead.turnLoop(0);
         CHECK.same("by those drives next time", 'l', ahead.getState(0));
+
+        for (int band = 0; band < 8; band++) {
+            Shakerhall one = run('x', 100);
+            one.setLevel(0, band, 8000);
+            one.turnLoop(0);
+            one.setAbort(0, 999);
+            one.turnLoop(0);
+            CHECK.same("band " + band + " alone", 'l', one.getState(0));
+        }
+        for (int sensor = 0; sensor < 3; sensor++) {
+            Shakerhall one = run('n', 100, 100, 100);
+            one.setLoose(sensor, true);
+            one.setAbort(0, 99);
+            one.turnLoop(0);
+            CHECK.same("sensor " + sensor + " alone is loose", 'c', one.getState(0));
+        }
 
         Shakerhall deaf = run('n', 100);
         deaf.setLoose(0, true);

@@ -35,6 +35,7 @@ final class ShockTest {
             CHECK.same("sweep " + one[0] + " " + one[1] + " " + one[2],
                     model.sweep(0, one[0], one[1], one[2]), lab.sweep(0, one[0], one[1], one[2]));
         }
+        heavySweeps();
         Shakerhall still = new Shakerhall();
         still.addStructure();
         still.addMass(0, 1, 1, 0);
@@ -42,6 +43,24 @@ final class ShockTest {
         CHECK.same("of like ones the first, down", 40, still.sweep(0, 40, 9, 3));
         CHECK.same("of like ones the first, up", 9, still.sweep(0, 9, 40, 3));
         CHECK.same("one period", 33, still.sweep(0, 33, 33, 1));
+    }
+
+    /** Here a sweep comes no farther than a place or two, or none at all. */
+    private static void heavySweeps() {
+        Model model = new Model();
+        model.addStructure();
+        model.addMass(0, 99, 1, 0);
+        for (int from = 4; from <= 14; from++) {
+            Shakerhall lab = new Shakerhall();
+            lab.addStructure();
+            lab.addMass(0, 99, 1, 0);
+            for (int to = 4; to <= 14; to++) {
+                for (int steps = 1; steps <= 40; steps++) {
+                    CHECK.same("heavy sweep " + from + " " + to + " " + steps,
+                            model.sweep(0, from, to, steps), lab.sweep(0, from, to, steps));
+                }
+            }
+        }
     }
 
     private static void wrongSweeps() {
@@ -137,6 +156,9 @@ final class ShockTest {
         CHECK.fails("nothing typed", CANNOT, () -> lab.getSpectrum(4));
         CHECK.fails("range ahead of nothing typed", RANGE, () -> lab.getSpectrum(3));
         CHECK.fails("period 65", RANGE, () -> lab.getSpectrum(65));
+        lab.type(0);
+        CHECK.same("nothing moves", 0, lab.getSpectrum(64));
+        lab.wipe();
         lab.type(1);
         CHECK.same("places 2, 0, -2, 0 on the table at 1, 0, 0, 0", 2, lab.getSpectrum(4));
         lab.wipe();
@@ -146,6 +168,10 @@ final class ShockTest {
         lab.type(-32);
         CHECK.same("away the other way", 32, lab.getSpectrum(64));
         lab.wipe();
+        lab.type(-38259);
+        lab.type(-11572);
+        CHECK.same("a 65th step of quiet would be farther", 31567, lab.getSpectrum(10));
+        lab.wipe();
         Model model = new Model();
         int[] row = {5000, -3000, 4000, 4000, -99999, 99999};
         for (int place : row) {
@@ -154,6 +180,17 @@ final class ShockTest {
         }
         for (int period = 4; period <= 64; period++) {
             CHECK.same("spectrum at " + period, model.getSpectrum(period), lab.getSpectrum(period));
+        }
+        for (int i = 1; i <= 18; i++) {
+            lab.type(i * 5555 * (i % 3 - 1));
+            model.type(i * 5555 * (i % 3 - 1));
+            for (int period = 4; period <= 64; period += 5) {
+                CHECK.same("spectrum at " + period, model.getSpectrum(period), lab.getSpectrum(period));
+            }
+        }
+        lab.wipe();
+        for (int place : row) {
+            lab.type(place);
         }
         CHECK.same("it needs no structure", 124028, lab.getSpectrum(8));
         CHECK.same("they stay typed", 6, lab.wipe());

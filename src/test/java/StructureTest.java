@@ -141,6 +141,15 @@ final class StructureTest {
         for (int period = 4; period <= 64; period++) {
             CHECK.same("period " + period, model.getResponse(0, 1, period), lab.getResponse(0, 1, period));
         }
+        Shakerhall heavy = new Shakerhall();
+        heavy.addStructure();
+        heavy.addMass(0, 99, 1, 0);
+        Model heavyModel = new Model();
+        heavyModel.addStructure();
+        heavyModel.addMass(0, 99, 1, 0);
+        for (int period = 4; period <= 64; period++) {
+            CHECK.same("heavy, period " + period, heavyModel.getResponse(0, 0, period), heavy.getResponse(0, 0, period));
+        }
         CHECK.fails("structure ahead of period", NONE, () -> lab.getResponse(1, 0, 3));
         CHECK.fails("mass ahead of period", NONE, () -> lab.getResponse(0, 2, 3));
         CHECK.fails("mass below 0", NONE, () -> lab.getResponse(0, -1, 16));
@@ -207,6 +216,11 @@ final class StructureTest {
         }
         lab.addMass(0, 4, 300, 2);
         CHECK.same("of the last mass", 18, lab.getResonance(0));
+
+        Shakerhall slow = new Shakerhall();
+        slow.addStructure();
+        slow.addMass(0, 99, 20, 0);
+        CHECK.same("the longest", 64, slow.getResonance(0));
 
         Shakerhall limp = new Shakerhall();
         limp.addStructure();
