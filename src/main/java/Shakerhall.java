@@ -625,7 +625,10 @@ public final class Shakerhall {
         }
 
         private static long within(long number) {
-            return Math.max(-FARTHEST, Math.min(FARTHEST, number));
+            if (number > FARTHEST) {
+                return FARTHEST;
+            }
+            return number < -FARTHEST ? -FARTHEST : number;
         }
 
         void goOn(int period, int steps) {

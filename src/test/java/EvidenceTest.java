@@ -16,16 +16,8 @@ final class EvidenceTest {
         CHECK.end();
     }
 
-    private static Shakerhall tower() {
-        Shakerhall lab = new Shakerhall();
-        lab.addStructure();
-        lab.addMass(0, 10, 500, 5);
-        lab.addMass(0, 4, 300, 2);
-        return lab;
-    }
-
     private static void signatures() {
-        Shakerhall lab = tower();
+        Shakerhall lab = Labs.tower();
         int response = lab.getResponse(0, 1, lab.getResonance(0));
         CHECK.same("takeSignature", response, lab.takeSignature(0));
         CHECK.same("as it was", false, lab.differs(0));
@@ -79,23 +71,12 @@ final class EvidenceTest {
                 .fails("differs: structure below 0", NONE, lab -> lab.differs(-1))
                 .fails("differs: none was taken", NoSuchElementException.class, lab -> lab.differs(0))
                 .areAlike("a wrong signature");
-        Shakerhall lab = tower();
+        Shakerhall lab = Labs.tower();
         CHECK.fails("none was taken, with masses", NoSuchElementException.class, () -> lab.differs(0));
     }
 
-    private static Shakerhall run() {
-        Shakerhall lab = new Shakerhall();
-        lab.addStructure();
-        lab.addMass(0, 1, 1600, 0);
-        lab.addSpecification();
-        lab.addSensor(0, 0, 100, 100);
-        lab.addRun(0, 0, 'x');
-        lab.addControl(0, 0, 1);
-        return lab;
-    }
-
     private static void shares() {
-        Shakerhall lab = run();
+        Shakerhall lab = Labs.run('x', 100);
         CHECK.same("none", 0f, lab.bandShare(0));
         for (int band = 0; band < 8; band++) {
             lab.setLevel(0, band, 800);
@@ -107,7 +88,7 @@ final class EvidenceTest {
         CHECK.fails("share: no run", NONE, () -> lab.bandShare(1));
         CHECK.fails("share: run below 0", NONE, () -> lab.bandShare(-1));
 
-        Shakerhall driven = run();
+        Shakerhall driven = Labs.run('x', 100);
         CHECK.same("mean at first", 100.0, driven.meanDrive(0));
         driven.setLevel(0, 0, 408);
         driven.turnLoop(0);
@@ -128,7 +109,7 @@ final class EvidenceTest {
     }
 
     private static void checksums() {
-        Shakerhall lab = run();
+        Shakerhall lab = Labs.run('x', 100);
         CHECK.same("one structure and a run", sum(1, 0, 0, 0, 800, 0), lab.checksum());
         lab.addStructure();
         lab.addMass(1, 16, 9000, 0);
@@ -149,7 +130,7 @@ final class EvidenceTest {
     }
 
     private static void sound() {
-        Shakerhall lab = run();
+        Shakerhall lab = Labs.run('x', 100);
         CHECK.yes("sound", lab.isSound());
         for (int i = 0; i < 9; i++) {
             lab.crack(0, 0);

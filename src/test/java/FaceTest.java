@@ -36,7 +36,8 @@ final class FaceTest {
         CHECK.same("the class is", "public final", Modifier.toString(Shakerhall.class.getModifiers()));
         for (Class<?> inside : Shakerhall.class.getDeclaredClasses()) {
             int modifiers = inside.getModifiers();
-            CHECK.yes(inside + " is not seen from outside", !Modifier.isPublic(modifiers) && !Modifier.isProtected(modifiers));
+            CHECK.yes(inside + " is not seen from outside",
+                    !Modifier.isPublic(modifiers) && !Modifier.isProtected(modifiers));
             CHECK.yes(inside + " is static", Modifier.isStatic(modifiers));
         }
         CHECK.yes("no private method bears the name of a public one", ownNames());

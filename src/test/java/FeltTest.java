@@ -12,19 +12,8 @@ final class FeltTest {
         CHECK.end();
     }
 
-    private static Shakerhall lively() {
-        Shakerhall lab = new Shakerhall();
-        lab.addStructure();
-        lab.addMass(0, 1, 1600, 0);
-        lab.addSpecification();
-        lab.addSensor(0, 0, 100, 100);
-        lab.addRun(0, 0, 'x');
-        lab.addControl(0, 0, 1);
-        return lab;
-    }
-
     private static void felt() {
-        Shakerhall lab = lively();
+        Shakerhall lab = Labs.run('x', 100);
         lab.addStructure();
         CHECK.same("nothing at first", 0, lab.getFelt(0, 0));
         lab.setLevel(0, 0, 1600);
@@ -45,10 +34,7 @@ final class FeltTest {
     }
 
     private static void lastMass() {
-        Shakerhall lab = new Shakerhall();
-        lab.addStructure();
-        lab.addMass(0, 10, 500, 5);
-        lab.addMass(0, 4, 300, 2);
+        Shakerhall lab = Labs.tower();
         lab.addSpecification();
         lab.addRun(0, 0, 'm');
         lab.turnLoop(0);
@@ -62,7 +48,7 @@ final class FeltTest {
     }
 
     private static void overtested() {
-        Shakerhall lab = lively();
+        Shakerhall lab = Labs.run('x', 100);
         for (int band = 0; band < 8; band++) {
             lab.setLevel(0, band, 800);
         }
@@ -90,7 +76,7 @@ final class FeltTest {
     }
 
     private static void events() {
-        Shakerhall lab = lively();
+        Shakerhall lab = Labs.run('x', 100);
         CHECK.same("none at first", 0, lab.countEvents(0));
         CHECK.fails("no event", java.util.NoSuchElementException.class, () -> lab.getEvent(0, 0));
         lab.sign(0, 0);

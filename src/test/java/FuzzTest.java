@@ -1,7 +1,6 @@
 import java.lang.reflect.InvocationTargetException;
 import java.lang.reflect.Method;
 import java.lang.reflect.Modifier;
-import java.util.ArrayList;
 import java.util.Arrays;
 import java.util.Comparator;
 import java.util.HashMap;
@@ -19,6 +18,8 @@ final class FuzzTest {
         49, 50, 51, 63, 64, 65, 90, 91, 98, 99, 100, 149, 150, 151, 9999, 10000, 99999, 100000, 999999, 1000000,
         1000001, 999999999, 1000000000, 1000000001, Integer.MAX_VALUE
     };
+    /** What plays all periods: it is made less often. */
+    private static final List<String> DEAR = List.of("takeSignature", "getResonance", "differs");
     private static final Method[] CALLS = calls();
     private static final Map<String, Method> MODEL_CALLS = modelCalls();
     private static final TreeMap<String, Integer> SEEN = new TreeMap<>();
@@ -90,8 +91,7 @@ final class FuzzTest {
         while (made < MOST_CALLS && !broken) {
             Method[] from = random.nextBoolean() ? often : CALLS;
             Method call = from[random.nextInt(from.length)];
-            // what plays all periods is dear in the model
-            if (random.nextInt(4) != 0 && List.of("takeSignature", "getResonance", "differs").contains(call.getName())) {
+            if (random.nextInt(4) != 0 && DEAR.contains(call.getName())) {
                 continue;
             }
             make(call, randomArguments(call));
@@ -104,8 +104,8 @@ final class FuzzTest {
             call("addStructure");
             int masses = 1 + random.nextInt(4);
             for (int m = 0; m < masses; m++) {
-                call("addMass", s, 1 + random.nextInt(random.nextInt(3) == 0 ? 6 : 99), 1 + random.nextInt(random.nextBoolean() ? 60 : 9999),
-                        random.nextInt(100));
+                call("addMass", s, 1 + random.nextInt(random.nextInt(3) == 0 ? 6 : 99),
+                        1 + random.nextInt(random.nextBoolean() ? 60 : 9999), random.nextInt(100));
                 for (int more = random.nextInt(2); more >= 0; more--) {
                     call("addSensor", s, m, 50 + random.nextInt(101), 1 + random.nextInt(1000000));
                 }

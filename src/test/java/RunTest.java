@@ -1,7 +1,4 @@
-/**
- * Promises 14 to 27: runs, control sensors, bands, the loop, stages, notches, abort lines. The structure
- * here answers every band with 32500, so that a sensor reads just its limit.
- */
+/** Promises 14 to 27: runs, control sensors, bands, the loop, stages, notches, abort lines. */
 final class RunTest {
     private static final Check CHECK = new Check("RunTest");
     private static final Class<IndexOutOfBoundsException> NONE = IndexOutOfBoundsException.class;
@@ -31,24 +28,6 @@ final class RunTest {
         CHECK.end();
     }
 
-    private static void lively(Shakerhall lab) {
-        lab.addStructure();
-        lab.addMass(0, 1, 1600, 0);
-        lab.addSpecification();
-    }
-
-    /** A run on the lively structure with a sensor for each limit, all of weight 1. */
-    private static Shakerhall run(char way, int... limits) {
-        Shakerhall lab = new Shakerhall();
-        lively(lab);
-        lab.addRun(0, 0, way);
-        for (int i = 0; i < limits.length; i++) {
-            lab.addSensor(0, 0, 100, limits[i]);
-            lab.addControl(0, i, 1);
-        }
-        return lab;
-    }
-
     private static void levels(Shakerhall lab, int level) {
         for (int band = 0; band < 8; band++) {
             lab.setLevel(0, band, level);
@@ -57,7 +36,7 @@ final class RunTest {
 
     private static void runs() {
         Shakerhall lab = new Shakerhall();
-        lively(lab);
+        Labs.lively(lab);
         lab.addSpecification();
         lab.addStructure();
         lab.addMass(1, 1, 1, 1);
@@ -77,7 +56,7 @@ final class RunTest {
     }
 
     private static void sixRuns(Shakerhall lab) {
-        lively(lab);
+        Labs.lively(lab);
         lab.addStructure();
         for (int i = 0; i < 6; i++) {
             lab.addRun(0, 0, 'm');
@@ -99,7 +78,7 @@ final class RunTest {
     }
 
     private static void fiveSensors(Shakerhall lab) {
-        lively(lab);
+        Labs.lively(lab);
         lab.addStructure();
         lab.addMass(1, 1, 1, 1);
         for (int i = 0; i < 5; i++) {
@@ -149,7 +128,7 @@ final class RunTest {
 
     private static void ways() {
         Shakerhall lab = new Shakerhall();
-        lively(lab);
+        Labs.lively(lab);
         int[] limits = {201, 100, 303};
         int[] weights = {1, 3, 2};
         for (int i = 0; i < 3; i++) {
@@ -169,14 +148,14 @@ final class RunTest {
         CHECK.same("greatest with a loose one", 201, lab.getBand(1, 3));
         CHECK.same("least with a loose one", 0, lab.getBand(2, 7));
 
-        CHECK.same("mean of one", 77, run('m', 77).getBand(0, 0));
-        CHECK.same("greatest of one", 77, run('x', 77).getBand(0, 0));
-        CHECK.same("least of one", 77, run('n', 77).getBand(0, 0));
-        CHECK.same("mean of none", 0, run('m').getBand(0, 0));
-        CHECK.same("greatest of none", 0, run('x').getBand(0, 0));
-        CHECK.same("least of none", 0, run('n').getBand(0, 0));
+        CHECK.same("mean of one", 77, Labs.run('m', 77).getBand(0, 0));
+        CHECK.same("greatest of one", 77, Labs.run('x', 77).getBand(0, 0));
+        CHECK.same("least of one", 77, Labs.run('n', 77).getBand(0, 0));
+        CHECK.same("mean of none", 0, Labs.run('m').getBand(0, 0));
+        CHECK.same("greatest of none", 0, Labs.run('x').getBand(0, 0));
+        CHECK.same("least of none", 0, Labs.run('n').getBand(0, 0));
 
-        Shakerhall driven = run('x', 33);
+        Shakerhall driven = Labs.run('x', 33);
         levels(driven, 1600);
         driven.turnLoop(0);
         CHECK.same("drive by 200 and 33", 606, driven.getDrive(0, 5));
@@ -184,7 +163,7 @@ final class RunTest {
     }
 
     private static void due() {
-        Shakerhall lab = run('m');
+        Shakerhall lab = Labs.run('m');
         int[] due = {99, 199, 399, 799};
         for (int stage = 0; stage < 4; stage++) {
             lab.setLevel(0, 6, 799);
@@ -202,7 +181,7 @@ final class RunTest {
         lab.setLevel(0, 6, 99999);
         CHECK.same("a great one", 66999, lab.getDue(0, 6));
 
-        Shakerhall twice = run('m');
+        Shakerhall twice = Labs.run('m');
         twice.setLevel(0, 0, 799);
         twice.sign(0, 0);
         twice.setNotch(0, 0, 33);
@@ -213,27 +192,27 @@ final class RunTest {
         int[] limits = {899, 900, 1000, 1100, 1101};
         boolean[] in = {false, true, true, true, false};
         for (int i = 0; i < 5; i++) {
-            Shakerhall lab = run('x', limits[i]);
+            Shakerhall lab = Labs.run('x', limits[i]);
             lab.setLevel(0, 4, 8000);
             CHECK.same("1000 and " + limits[i], in[i], lab.isInBand(0, 4));
             CHECK.same("due 0", false, lab.isInBand(0, 3));
         }
         int[] small = {13, 14, 16, 17};
         for (int i = 0; i < 4; i++) {
-            Shakerhall lab = run('x', small[i]);
+            Shakerhall lab = Labs.run('x', small[i]);
             lab.setLevel(0, 4, 120);
             CHECK.same("15, a tenth cut, and " + small[i], i == 1 || i == 2, lab.isInBand(0, 4));
             lab.setTolerance(0, 4, 50);
             CHECK.same("15, a half, and " + small[i], true, lab.isInBand(0, 4));
         }
-        Shakerhall nothing = run('m');
+        Shakerhall nothing = Labs.run('m');
         CHECK.same("0 and 0", true, nothing.isInBand(0, 0));
         nothing.setLevel(0, 0, 8);
         CHECK.same("0 and 1", false, nothing.isInBand(0, 0));
     }
 
     private static void wrongBands() {
-        Shakerhall lab = run('m', 100);
+        Shakerhall lab = Labs.run('m', 100);
         CHECK.fails("getBand: run ahead of band", NONE, () -> lab.getBand(1, 8));
         CHECK.fails("getBand: run below 0", NONE, () -> lab.getBand(-1, 0));
         CHECK.fails("getBand: band 8", RANGE, () -> lab.getBand(0, 8));
@@ -257,7 +236,7 @@ final class RunTest {
     }
 
     private static void turning() {
-        Shakerhall lab = run('x', 100);
+        Shakerhall lab = Labs.run('x', 100);
         lab.setLevel(0, 0, 800);
         lab.setLevel(0, 1, 880);
         lab.setLevel(0, 2, 888);
@@ -276,7 +255,7 @@ final class RunTest {
         CHECK.same("drive of 6", 2000, lab.getDrive(0, 6));
         CHECK.same("two minutes", 2, lab.getMinutes(0));
 
-        Shakerhall without = run('m');
+        Shakerhall without = Labs.run('m');
         levels(without, 800);
         CHECK.same("none in band", 0, without.turnLoop(0));
         CHECK.same("a drive stays where the band has 0", 100, without.getDrive(0, 0));
@@ -284,7 +263,7 @@ final class RunTest {
     }
 
     private static void limitsOfDrives() {
-        Shakerhall lab = run('x', 1);
+        Shakerhall lab = Labs.run('x', 1);
         levels(lab, 99999);
         int[] drives = {1000, 10000, 100000, 100000};
         for (int drive : drives) {
@@ -297,14 +276,14 @@ final class RunTest {
         CHECK.same("drive at least", 1, lab.getDrive(0, 2));
         CHECK.same("what 1 hundredth of 1 has", 0, lab.getBand(0, 2));
 
-        Shakerhall great = run('x', 32500);
+        Shakerhall great = Labs.run('x', 32500);
         levels(great, 99999);
         CHECK.same("a small step down", 8, great.turnLoop(0));
         CHECK.same("100 times 12499, divided by 32500, cut", 38, great.getDrive(0, 0));
     }
 
     private static void wrongTurns() {
-        Shakerhall lab = run('m');
+        Shakerhall lab = Labs.run('m');
         for (int i = 1; i <= 99; i++) {
             lab.turnLoop(0);
         }
@@ -315,7 +294,7 @@ final class RunTest {
         CHECK.fails("no run", NONE, () -> lab.turnLoop(1));
         CHECK.fails("run below 0", NONE, () -> lab.turnLoop(-1));
 
-        Shakerhall full = run('x', 100);
+        Shakerhall full = Labs.run('x', 100);
         levels(full, 800);
         for (int i = 1; i <= 99; i++) {
             full.turnLoop(0);
@@ -326,7 +305,7 @@ final class RunTest {
     }
 
     private static void stages() {
-        Shakerhall lab = run('x', 100);
+        Shakerhall lab = Labs.run('x', 100);
         levels(lab, 800);
         CHECK.same("first", 1, lab.raise(0));
         CHECK.fails("not in band by now", CANNOT, () -> lab.raise(0));
@@ -343,7 +322,7 @@ final class RunTest {
 
     private static void wrongStages() {
         new Twins(CHECK, lab -> {
-            lively(lab);
+            Labs.lively(lab);
             lab.addSensor(0, 0, 100, 100);
             lab.addRun(0, 0, 'x');
             lab.addControl(0, 0, 1);
@@ -352,12 +331,12 @@ final class RunTest {
                 .fails("run below 0", NONE, lab -> lab.raise(-1))
                 .fails("not in band", CANNOT, lab -> lab.raise(0))
                 .areAlike("raise");
-        Shakerhall one = run('x', 100);
+        Shakerhall one = Labs.run('x', 100);
         levels(one, 800);
         one.setLevel(0, 7, 700);
         CHECK.fails("one band of eight", CANNOT, () -> one.raise(0));
 
-        Shakerhall broken = run('x', 100);
+        Shakerhall broken = Labs.run('x', 100);
         levels(broken, 800);
         broken.setAbort(0, 99);
         broken.turnLoop(0);
@@ -367,14 +346,14 @@ final class RunTest {
     }
 
     private static void breakingOff() {
-        Shakerhall at = run('m', 100, 10);
+        Shakerhall at = Labs.run('m', 100, 10);
         at.setAbort(0, 100);
         // the drives come to 1, by which 100 and 10 have 1 and 0, and their mean 0
         CHECK.same("at the line it goes on", 8, at.turnLoop(0));
         CHECK.same("state at the line", 'g', at.getState(0));
         CHECK.same("a minute at the line", 1, at.getMinutes(0));
 
-        Shakerhall above = run('m', 10, 100);
+        Shakerhall above = Labs.run('m', 10, 100);
         above.setAbort(0, 99);
         CHECK.same("above the line", 0, above.turnLoop(0));
         CHECK.same("broken off by the line", 'l', above.getState(0));
@@ -387,7 +366,7 @@ final class RunTest {
         above.setLoose(0, true);
         CHECK.same("what it is stays", 'l', above.getState(0));
 
-        Shakerhall loose = run('m', 100, 10);
+        Shakerhall loose = Labs.run('m', 100, 10);
         loose.setLoose(1, true);
         loose.setAbort(0, 99);
         loose.turnLoop(0);
@@ -395,14 +374,14 @@ final class RunTest {
         loose.setLoose(1, false);
         CHECK.same("what it is stays", 'c', loose.getState(0));
 
-        Shakerhall other = run('m', 100);
+        Shakerhall other = Labs.run('m', 100);
         other.addSensor(0, 0, 100, 5);
         other.setLoose(1, true);
         other.setAbort(0, 99);
         other.turnLoop(0);
         CHECK.same("a loose one that controls nothing", 'l', other.getState(0));
 
-        Shakerhall ahead = run('x', 100);
+        Shakerhall ahead = Labs.run('x', 100);
         levels(ahead, 8000);
         ahead.setAbort(0, 100);
         ahead.turnLoop(0);
@@ -412,7 +391,7 @@ final class RunTest {
         CHECK.same("by those drives next time", 'l', ahead.getState(0));
 
         for (int band = 0; band < 8; band++) {
-            Shakerhall one = run('x', 100);
+            Shakerhall one = Labs.run('x', 100);
             one.setLevel(0, band, 8000);
             one.turnLoop(0);
             one.setAbort(0, 999);
@@ -420,14 +399,14 @@ final class RunTest {
             CHECK.same("band " + band + " alone", 'l', one.getState(0));
         }
         for (int sensor = 0; sensor < 3; sensor++) {
-            Shakerhall one = run('n', 100, 100, 100);
+            Shakerhall one = Labs.run('n', 100, 100, 100);
             one.setLoose(sensor, true);
             one.setAbort(0, 99);
             one.turnLoop(0);
             CHECK.same("sensor " + sensor + " alone is loose", 'c', one.getState(0));
         }
 
-        Shakerhall deaf = run('n', 100);
+        Shakerhall deaf = Labs.run('n', 100);
         deaf.setLoose(0, true);
         deaf.setAbort(0, 1);
         CHECK.same("loose alone is below any line", 8, deaf.turnLoop(0));
@@ -443,7 +422,7 @@ final class RunTest {
     }
 
     private static void takingUp() {
-        Shakerhall lab = run('x', 100);
+        Shakerhall lab = Labs.run('x', 100);
         levels(lab, 800);
         CHECK.fails("it goes", CANNOT, () -> lab.takeUp(0));
         lab.sign(0, 3);
@@ -472,7 +451,7 @@ final class RunTest {
     }
 
     private static void papersAndNotches() {
-        Shakerhall lab = run('x', 100);
+        Shakerhall lab = Labs.run('x', 100);
         lab.addRun(0, 0, 'x');
         for (int i = 1; i <= 9; i++) {
             CHECK.same("sign", i, lab.sign(0, 7));
@@ -494,7 +473,7 @@ final class RunTest {
 
     private static void wrongPapers() {
         new Twins(CHECK, lab -> {
-            lively(lab);
+            Labs.lively(lab);
             lab.addRun(0, 0, 'x');
             lab.setLevel(0, 7, 99999);
             lab.sign(0, 7);
@@ -515,12 +494,12 @@ final class RunTest {
     }
 
     private static void abortLines() {
-        Shakerhall lab = run('x', 100);
+        Shakerhall lab = Labs.run('x', 100);
         CHECK.same("line at first", 1000000, lab.setAbort(0, 1));
         CHECK.same("least line", 1, lab.setAbort(0, 1000000));
         CHECK.same("greatest line", 1000000, lab.setAbort(0, 77));
         new Twins(CHECK, twin -> {
-            lively(twin);
+            Labs.lively(twin);
             twin.addRun(0, 0, 'x');
         })
                 .fails("abort: run ahead of line", NONE, twin -> twin.setAbort(1, 0))

@@ -15,16 +15,8 @@ final class SensorTest {
         CHECK.end();
     }
 
-    private static Shakerhall tower() {
-        Shakerhall lab = new Shakerhall();
-        lab.addStructure();
-        lab.addMass(0, 10, 500, 5);
-        lab.addMass(0, 4, 300, 2);
-        return lab;
-    }
-
     private static void sensors() {
-        Shakerhall lab = tower();
+        Shakerhall lab = Labs.tower();
         CHECK.same("least of all", 0, lab.addSensor(0, 0, 50, 1));
         CHECK.same("most of all", 1, lab.addSensor(0, 1, 150, 1000000));
         for (int i = 2; i < 8; i++) {
@@ -55,7 +47,7 @@ final class SensorTest {
     }
 
     private static void loose() {
-        Shakerhall lab = tower();
+        Shakerhall lab = Labs.tower();
         lab.addSensor(0, 0, 100, 1000000);
         lab.addSensor(0, 0, 100, 1000000);
         CHECK.same("fast at first", false, lab.setLoose(0, true));
@@ -70,7 +62,7 @@ final class SensorTest {
     }
 
     private static void readings() {
-        Shakerhall lab = tower();
+        Shakerhall lab = Labs.tower();
         lab.addSensor(0, 0, 50, 1000000);
         lab.addSensor(0, 1, 150, 1000000);
         lab.addSensor(0, 0, 100, 8685);

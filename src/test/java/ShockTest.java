@@ -16,15 +16,8 @@ final class ShockTest {
         CHECK.end();
     }
 
-    private static void twoMasses(Shakerhall lab) {
-        lab.addStructure();
-        lab.addMass(0, 10, 500, 5);
-        lab.addMass(0, 4, 300, 2);
-    }
-
     private static void sweeps() {
-        Shakerhall lab = new Shakerhall();
-        twoMasses(lab);
+        Shakerhall lab = Labs.tower();
         Model model = new Model();
         model.addStructure();
         model.addMass(0, 10, 500, 5);
@@ -122,8 +115,7 @@ final class ShockTest {
         // speed 16 at the 16th step, so one place a step, 65 steps in all; 65 / 1584 pulls nothing back
         CHECK.same("64 steps of quiet", 65, late.shock(0));
 
-        Shakerhall two = new Shakerhall();
-        twoMasses(two);
+        Shakerhall two = Labs.tower();
         two.type(10);
         Model model = new Model();
         model.addStructure();

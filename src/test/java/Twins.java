@@ -37,7 +37,8 @@ final class Twins {
         }
         for (int i = 0; i < 8; i++) {
             int sensor = i;
-            all.add("sensor " + Check.outcome(() -> lab.read(sensor, 16)) + Check.outcome(() -> lab.setLoose(sensor, true)));
+            all.add("sensor " + Check.outcome(() -> lab.read(sensor, 16))
+                    + Check.outcome(() -> lab.setLoose(sensor, true)));
         }
         for (int r = 0; r < 6 && !Check.outcome(run(lab, r)).startsWith("throws"); r++) {
             runAnswers(lab, r, all);
