@@ -28,12 +28,6 @@ final class RunTest {
         CHECK.end();
     }
 
-    private static void levels(Shakerhall lab, int level) {
-        for (int band = 0; band < 8; band++) {
-            lab.setLevel(0, band, level);
-        }
-    }
-
     private static void runs() {
         Shakerhall lab = new Shakerhall();
         Labs.lively(lab);
@@ -156,7 +150,7 @@ final class RunTest {
         CHECK.same("least of none", 0, Labs.run('n').getBand(0, 0));
 
         Shakerhall driven = Labs.run('x', 33);
-        levels(driven, 1600);
+        Labs.levels(driven, 1600);
         driven.turnLoop(0);
         CHECK.same("drive by 200 and 33", 606, driven.getDrive(0, 5));
         CHECK.same("33 times 606, divided by 100, cut", 199, driven.getBand(0, 5));
@@ -256,7 +250,7 @@ final class RunTest {
         CHECK.same("two minutes", 2, lab.getMinutes(0));
 
         Shakerhall without = Labs.run('m');
-        levels(without, 800);
+        Labs.levels(without, 800);
         CHECK.same("none in band", 0, without.turnLoop(0));
         CHECK.same("a drive stays where the band has 0", 100, without.getDrive(0, 0));
         CHECK.same("a minute all the same", 1, without.getMinutes(0));
@@ -264,20 +258,20 @@ final class RunTest {
 
     private static void limitsOfDrives() {
         Shakerhall lab = Labs.run('x', 1);
-        levels(lab, 99999);
+        Labs.levels(lab, 99999);
         int[] drives = {1000, 10000, 100000, 100000};
         for (int drive : drives) {
             CHECK.same("none in band", 0, lab.turnLoop(0));
             CHECK.same("drive at most", drive, lab.getDrive(0, 2));
         }
         CHECK.same("mean drive", 100000.0, lab.meanDrive(0));
-        levels(lab, 0);
+        Labs.levels(lab, 0);
         lab.turnLoop(0);
         CHECK.same("drive at least", 1, lab.getDrive(0, 2));
         CHECK.same("what 1 hundredth of 1 has", 0, lab.getBand(0, 2));
 
         Shakerhall great = Labs.run('x', 32500);
-        levels(great, 99999);
+        Labs.levels(great, 99999);
         CHECK.same("a small step down", 8, great.turnLoop(0));
         CHECK.same("100 times 12499, divided by 32500, cut", 38, great.getDrive(0, 0));
     }
@@ -295,7 +289,7 @@ final class RunTest {
         CHECK.fails("run below 0", NONE, () -> lab.turnLoop(-1));
 
         Shakerhall full = Labs.run('x', 100);
-        levels(full, 800);
+        Labs.levels(full, 800);
         for (int i = 1; i <= 99; i++) {
             full.turnLoop(0);
         }
@@ -306,7 +300,7 @@ final class RunTest {
 
     private static void stages() {
         Shakerhall lab = Labs.run('x', 100);
-        levels(lab, 800);
+        Labs.levels(lab, 800);
         CHECK.same("first", 1, lab.raise(0));
         CHECK.fails("not in band by now", CANNOT, () -> lab.raise(0));
         CHECK.same("in band again", 8, lab.turnLoop(0));
@@ -332,12 +326,12 @@ final class RunTest {
                 .fails("not in band", CANNOT, lab -> lab.raise(0))
                 .areAlike("raise");
         Shakerhall one = Labs.run('x', 100);
-        levels(one, 800);
+        Labs.levels(one, 800);
         one.setLevel(0, 7, 700);
         CHECK.fails("one band of eight", CANNOT, () -> one.raise(0));
 
         Shakerhall broken = Labs.run('x', 100);
-        levels(broken, 800);
+        Labs.levels(broken, 800);
         broken.setAbort(0, 99);
         broken.turnLoop(0);
         CHECK.fails("broken off", CANNOT, () -> broken.raise(0));
@@ -360,9 +354,9 @@ final class RunTest {
         CHECK.same("no drive changes", 100, above.getDrive(0, 0));
         CHECK.same("no minute", 0, above.getMinutes(0));
         CHECK.same("nothing felt", 0, above.getFelt(0, 0));
-        CHECK.same("its event", "b", events(above));
+        CHECK.same("its event", "b", Labs.events(above));
         CHECK.fails("no turn", CANNOT, () -> above.turnLoop(0));
-        CHECK.same("no event", "b", events(above));
+        CHECK.same("no event", "b", Labs.events(above));
         above.setLoose(0, true);
         CHECK.same("what it is stays", 'l', above.getState(0));
 
@@ -382,7 +376,7 @@ final class RunTest {
         CHECK.same("a loose one that controls nothing", 'l', other.getState(0));
 
         Shakerhall ahead = Labs.run('x', 100);
-        levels(ahead, 8000);
+        Labs.levels(ahead, 8000);
         ahead.setAbort(0, 100);
         ahead.turnLoop(0);
         CHECK.same("by the drives ahead of the turn", 'g', ahead.getState(0));
@@ -413,17 +407,9 @@ final class RunTest {
         CHECK.same("it goes", 'g', deaf.getState(0));
     }
 
-    private static String events(Shakerhall lab) {
-        StringBuilder all = new StringBuilder();
-        for (int i = 0; i < lab.countEvents(0); i++) {
-            all.append(lab.getEvent(0, i));
-        }
-        return all.toString();
-    }
-
     private static void takingUp() {
         Shakerhall lab = Labs.run('x', 100);
-        levels(lab, 800);
+        Labs.levels(lab, 800);
         CHECK.fails("it goes", CANNOT, () -> lab.takeUp(0));
         lab.sign(0, 3);
         lab.setNotch(0, 3, 5);
@@ -444,7 +430,7 @@ final class RunTest {
         CHECK.same("the notch stays", 95, lab.getDue(0, 3));
         CHECK.same("the paper stays", 2, lab.sign(0, 3));
         CHECK.same("the line stays", 1, lab.setAbort(0, 1000));
-        CHECK.same("its events", "nrtrtbu", events(lab));
+        CHECK.same("its events", "nrtrtbu", Labs.events(lab));
         CHECK.fails("it goes by now", CANNOT, () -> lab.takeUp(0));
         CHECK.same("a turn", 8, lab.turnLoop(0));
         CHECK.same("a third minute", 3, lab.getMinutes(0));
@@ -468,7 +454,7 @@ final class RunTest {
         CHECK.fails("used up", CANNOT, () -> lab.setNotch(1, 7, 34));
         CHECK.fails("a paper of another run", CANNOT, () -> lab.setNotch(1, 0, 34));
         CHECK.same("the notch stays", 0, lab.setNotch(0, 0, 1));
-        CHECK.same("its events", "nnnn", events(lab));
+        CHECK.same("its events", "nnnn", Labs.events(lab));
     }
 
     private static void wrongPapers() {
