@@ -17,6 +17,7 @@ final class EdgesTest {
         edges.part(EvidenceEdges::run);
         edges.part(SoundEdges::run);
         edges.part(OrderEdges::run);
+        edges.part(SharingEdges::run);
         edges.end();
     }
 }
