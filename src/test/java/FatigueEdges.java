@@ -17,6 +17,7 @@ final class FatigueEdges {
         softest(edges);
         fullSpring(edges);
         counted(edges);
+        highestPile(edges);
     }
 
     private static Shakerhall typed(int... places) {
@@ -263,5 +264,19 @@ final class FatigueEdges {
                 edges.same("damage behind " + (i + 1) + " shocks", model.getDamage(0), lab.getDamage(0));
             }
         }
+    }
+
+    /** A mass that swings to and fro in each step but the second one, each time less far, so that 88 places are left. */
+    private static void highestPile(Edges edges) {
+        edges.of("Fatigue", "Spans of neighbours that are left on the pile at last count half a cycle each.");
+        int[] places = new int[24];
+        Arrays.fill(places, 0, 2, -8175);
+        places[1] = -55938;
+        Arrays.fill(places, 2, 4, 6472);
+        Arrays.fill(places, 4, 13, 3393);
+        Arrays.fill(places, 13, 24, 3931);
+        Shakerhall lab = StepEdges.loose(new int[][] {{3, 1, 93}});
+        edges.same("the second place", 78339, StepEdges.shock(lab, places));
+        edges.same("half of 87 spans", 1522489L / 2, lab.getDamage(0));
     }
 }

@@ -1,4 +1,5 @@
 import java.util.Arrays;
+import java.util.List;
 import java.util.function.Consumer;
 
 /** Where sentences meet: what several runs, sensors and structures share, and what each has of its own. */
@@ -31,6 +32,8 @@ final class SharingEdges {
         typedForAll(edges);
         twoStructures(edges);
         questions(edges);
+        whatStays(edges);
+        onlyWhatIsAsked(edges);
     }
 
     private static String felt(Shakerhall lab, int structure) {
@@ -443,5 +446,80 @@ final class SharingEdges {
         lab.checksum();
         lab.isSound();
         return lab;
+    }
+
+    private static void whatStays(Edges edges) {
+        edges.of("Terms", "what was measured is never replaced");
+        Shakerhall lab = worn(1000000000, l -> l.shock(0));
+        long damage = lab.getDamage(0);
+        String felt = felt(lab, 0);
+        lab.addMass(0, 9, 900, 9);
+        lab.crack(0, 1);
+        lab.setLife(0, 1);
+        lab.wipe();
+        lab.turnLoop(0);
+        lab.takeSignature(0);
+        edges.yes("it is worn", damage > 1);
+        edges.same("no call but a shock changes the damage", damage, lab.getDamage(0));
+        edges.yes("the run turned", lab.getMinutes(0) == 1);
+        Shakerhall calm = worn(1000000000, l -> l.shock(0));
+        calm.addMass(0, 9, 900, 9);
+        calm.crack(0, 1);
+        calm.setLife(0, 1);
+        calm.takeSignature(0);
+        calm.wipe();
+        calm.type(5);
+        calm.setLoose(0, true);
+        calm.setLevel(0, 0, 99999);
+        edges.same("no call but a turn changes what was felt", felt, felt(calm, 0));
+    }
+
+    /** The groups of answers that differ behind a call are some of those that are told, and at least one. */
+    private static void only(Edges edges, String what, Consumer<Shakerhall> call, String... groups) {
+        List<String> before = Answers.of(() -> Edges.made(Labs.ALL));
+        List<String> behind = Answers.of(() -> {
+            Shakerhall lab = Edges.made(Labs.ALL);
+            call.accept(lab);
+            return lab;
+        });
+        int changed = 0;
+        for (int i = 0; i < before.size(); i++) {
+            if (!before.get(i).equals(behind.get(i))) {
+                changed++;
+                String group = behind.get(i).replaceAll("^(laboratory|sensors|specifications|\\w+ \\d).*", "$1");
+                edges.yes(what + " changes nothing of " + group, List.of(groups).contains(group));
+            }
+        }
+        edges.yes(what + " changes something", changed > 0);
+    }
+
+    private static void onlyWhatIsAsked(Edges edges) {
+        edges.of("Not promised", "Nothing is promised beyond the answers and state changes described above");
+        only(edges, "a crack of 0", lab -> lab.crack(0, 0),
+                "laboratory", "structure 0", "sensors", "run 0", "run 1", "run 2");
+        only(edges, "a crack of 4", lab -> lab.crack(4, 0), "laboratory", "structure 4");
+        only(edges, "a loose sensor", lab -> lab.setLoose(0, true), "sensors", "run 0");
+        only(edges, "a loose sensor of a run that is broken off", lab -> lab.setLoose(7, true), "sensors", "run 4");
+        only(edges, "a level", lab -> lab.setLevel(0, 5, 300), "specifications", "run 0", "run 4");
+        only(edges, "a tolerance", lab -> lab.setTolerance(3, 5, 50), "specifications", "run 3", "run 5");
+        only(edges, "a turn", lab -> lab.turnLoop(1), "laboratory", "structure 0", "run 0", "run 1", "run 2");
+        only(edges, "a turn on another structure", lab -> lab.turnLoop(5), "laboratory", "structure 3", "run 5");
+        only(edges, "a taking up", lab -> lab.takeUp(4), "laboratory", "run 4");
+        only(edges, "a breaking off", lab -> {
+            lab.setAbort(0, 1);
+            lab.turnLoop(0);
+        }, "run 0");
+        only(edges, "a paper", lab -> lab.sign(3, 2), "run 3");
+        only(edges, "a notch", lab -> lab.setNotch(0, 0, 30), "run 0");
+        only(edges, "a line", lab -> lab.setAbort(5, 4), "run 5");
+        only(edges, "a shock", lab -> lab.shock(2), "laboratory", "structure 2");
+        only(edges, "a shock of what runs are on", lab -> lab.shock(0), "laboratory", "structure 0");
+        only(edges, "a shock that cracks it", lab -> {
+            lab.setLife(3, 1);
+            lab.shock(3);
+        }, "laboratory", "structure 3", "run 5", "sensors");
+        only(edges, "a life", lab -> lab.setLife(0, 5), "structure 0");
+        only(edges, "a signature", lab -> lab.takeSignature(4), "structure 4");
+        only(edges, "a wiping", Shakerhall::wipe, "laboratory");
     }
 }
